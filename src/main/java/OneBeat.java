@@ -258,6 +258,7 @@ public final class OneBeat {
         private final int players;
         private int need;
         private int patience;
+        // null without a margin statement
         private Formula margin;
         private final boolean[] isClockTold = new boolean[MOST_PLAYERS];
         private final int[] offset = new int[MOST_PLAYERS];
@@ -268,16 +269,13 @@ public final class OneBeat {
             this.players = players;
         }
 
-        // Nothing that can be told is 0 or null, so these are the ones that the text left out.
+        // Neither can be told as 0, so 0 is what the text left out.
         void fillIn() {
             if (need == 0) {
                 need = players;
             }
             if (patience == 0) {
                 patience = 50;
-            }
-            if (margin == null) {
-                margin = new Formula(Formula.USUAL, Formula.USUAL.length);
             }
         }
 
@@ -319,7 +317,6 @@ public final class OneBeat {
         private static final int MINUS = -6;
         private static final int TIMES = -7;
         private static final int OVER = -8;
-        private static final int[] USUAL = {2, DELAY, TIMES, 1, PLUS};
 
         private static final int BOUND = 1000000;
         // Two operands wait at each of the 5 levels that 4 parentheses make, and one is at work.
@@ -794,10 +791,11 @@ public final class OneBeat {
 
         int margin(int song) {
             Formula formula = setup.margin;
+            int delay = greatestOpenDelay();
             if (formula == null) {
-                return 1;
+                return 2 * delay + 1;
             }
-            int value = formula.value(setup.players, greatestOpenDelay(), countUp(), song);
+            int value = formula.value(setup.players, delay, countUp(), song);
             return Math.max(1, Math.min(MOST_MARGIN, value));
         }
 
@@ -1085,7 +1083,7 @@ public final class OneBeat {
 
         /** Reads the first bytes and empties the buffer; gives null if the text has an error. */
         Setup read(int count) {
-            length = Math.min(count, stored);
+            length = Math.max(0, Math.min(count, text.length));
             stored = 0;
             position = 0;
             codeCount = 0;
