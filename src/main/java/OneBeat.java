@@ -438,8 +438,6 @@ public final class OneBeat {
         void dropPlan() {
             plan = NO_PLAN;
             planNumber = -1;
-            planSong = 0;
-            planBeat = 0;
         }
 
         boolean canChange(int estimate) {
@@ -469,13 +467,14 @@ public final class OneBeat {
         private int deadline;
         private int sender;
         private int votes;
-        private int outcome = NEVER_MADE;
-        private int firstChange = -1;
-        private int lastChange = -1;
+        private int outcome;
+        // -1 as long as nobody has changed
+        private int firstChange;
+        private int lastChange;
 
         void begin() {
-            start(0, 0, 0, 0);
             outcome = NEVER_MADE;
+            firstChange = -1;
         }
 
         void start(int newSong, int newBeat, int newDeadline, int newSender) {
@@ -486,7 +485,6 @@ public final class OneBeat {
             votes = 1;
             outcome = OPEN;
             firstChange = -1;
-            lastChange = -1;
         }
 
         void copyFrom(Proposal other) {
@@ -657,11 +655,12 @@ public final class OneBeat {
 
         private Setup setup;
         private final Player[] players = new Player[Setup.MOST_PLAYERS];
-        private final boolean[] cuts = new boolean[Setup.MOST_PLAYERS * Setup.MOST_PLAYERS];
         private final Mail mail = new Mail();
         private final Proposal latest = new Proposal();
         private final Letter incoming = new Letter();
         private final Letter outgoing = new Letter();
+        // A bit for each of the 64 places of a link: 1 if it is cut.
+        private long cuts;
         private int time;
         private int conductor;
         private int sent;
@@ -686,9 +685,9 @@ public final class OneBeat {
             for (int i = 0; i < players.length; i++) {
                 players[i].begin();
             }
-            Arrays.fill(cuts, false);
             mail.begin();
             latest.begin();
+            cuts = 0;
             time = 0;
             conductor = 0;
             sent = 0;
@@ -705,9 +704,9 @@ public final class OneBeat {
             for (int i = 0; i < players.length; i++) {
                 players[i].copyFrom(other.at(i));
             }
-            System.arraycopy(other.cuts, 0, cuts, 0, cuts.length);
             mail.copyFrom(other.mail);
             latest.copyFrom(other.latest);
+            cuts = other.cuts;
             time = other.time;
             conductor = other.conductor;
             sent = other.sent;
@@ -741,11 +740,12 @@ public final class OneBeat {
         }
 
         boolean isCut(int from, int to) {
-            return cuts[Setup.place(from, to)];
+            return (cuts >> Setup.place(from, to) & 1) == 1;
         }
 
         void setCut(int from, int to, boolean isCut) {
-            cuts[Setup.place(from, to)] = isCut;
+            long link = 1L << Setup.place(from, to);
+            cuts = isCut ? cuts | link : cuts & ~link;
         }
 
         int countUp() {
@@ -1061,7 +1061,7 @@ public final class OneBeat {
         private int kind;
         private int start;
         private int value;
-        // What was taken last: a number, and where it began.
+        // The number that was taken last and, if it has no sign, where it began.
         private int taken;
         private int takenAt;
         private final int[] codes = new int[MOST_BYTES];
@@ -1087,7 +1087,6 @@ public final class OneBeat {
             stored = 0;
             position = 0;
             codeCount = 0;
-            errorCode = 0;
             errorStart = -1;
             step();
             if (!takeWord("players") || !takeNumber(1, Setup.MOST_PLAYERS)) {
@@ -1309,7 +1308,6 @@ public final class OneBeat {
                 return fail(OUT_OF_RANGE, at);
             }
             taken = isNegative ? -value : value;
-            takenAt = at;
             step();
             return true;
         }

@@ -47,7 +47,7 @@ final class Check {
         }
     }
 
-    /** The same, and the object must answer the checksum and the count of undos as before. */
+    /** The same, and the checksum of the object must be as before. */
     static void refuses(String what, OneBeat x, Class<?> due, Runnable call) {
         long before = x.checksum();
         throwsJust(what, due, call);

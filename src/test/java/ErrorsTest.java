@@ -60,6 +60,12 @@ public final class ErrorsTest {
         read(SYNTAX, "players 3:", "         ^");
         read(SYNTAX, "players 3/", "         ^");
         read(SYNTAX, "players 3;foo;", "          ^");
+        read(SYNTAX, "xlayers 3;", "^");
+        read(SYNTAX, "players 3;heed 1;", "          ^");
+        read(SYNTAX, "players 3;needa 1;", "          ^");
+        read(SYNTAX, "players 3;needz 1;", "          ^");
+        read(SYNTAX, "players 3;zneed 1;", "          ^");
+        read(SYNTAX, "players 3;aneed 1;", "          ^");
         read(SYNTAX, "players 3;4;", "          ^");
     }
 

@@ -165,7 +165,13 @@ public final class PromisesTest {
             OneBeat x = Check.with("players 3;link 0 2 4 6;margin " + sums[i] + ";");
             Check.same("margin " + sums[i], x.state(12), due[i]);
         }
-        OneBeat x = Check.with("players 3;link 0 2 4 6;link 1 2 5 1;");
+        OneBeat x = Check.with("players 3;margin 20 * (song + 4);");
+        Check.same("margin of the first load", x.state(12), 100);
+        Check.same("a margin with an error", Check.load(x, "players 3;margin 7 * (song + 4;"), -2);
+        Check.same("margin of the first load", x.state(12), 100);
+        Check.load(x, "players 3;margin 7;");
+        Check.same("margin of the second load", x.state(12), 7);
+        Check.load(x, "players 3;link 0 2 4 6;link 1 2 5 1;");
         Check.same("usual margin", x.state(12), 13);
         x.cut(2, 0, true);
         Check.same("usual margin of the open links", x.state(12), 11);
@@ -508,16 +514,18 @@ public final class PromisesTest {
         z.pass(4);
         Check.same("given up without its sender", z.state(8), 1);
         Check.same("who sends nothing then", z.state(4), 2);
-        // A give up of proposal 0 reaches player 1 when proposal 1 is its plan.
-        OneBeat w = Check.with("players 3;link 0 1 9 9;link 1 2 1 1;patience 1;need 2;");
+        // Proposal 0 is given up at 12, and player 1 hears of that at 21, when proposal 1 is its plan.
+        OneBeat w = Check.with("players 3;link 0 1 9 9;link 1 2 1 1;patience 12;");
         w.propose(5);
-        w.pass(1);
+        w.pass(12);
         w.lead(2);
         w.propose(6);
-        w.pass(1);
-        Check.same("plan for the newer one", w.player(1, 5), 1);
-        w.pass(8);
-        Check.same("given up long ago", w.player(1, 5), -1);
+        w.pass(9);
+        Check.same("no give up is left", w.state(3), 0);
+        Check.same("a give up of an older one", w.player(1, 5), 1);
+        Check.same("its plan", w.player(1, 4), 1);
+        w.pass(4);
+        Check.same("its own give up", w.player(1, 4), 0);
         firmOnesStay();
     }
 
