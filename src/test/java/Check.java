@@ -1,18 +1,41 @@
 import java.nio.charset.StandardCharsets;
+import java.util.NoSuchElementException;
 
-/** Counts and prints the answers that are not due. */
-final class Check {
+/** Counts and prints the answers that are not due; a class of tests extends it to call it by short names. */
+abstract class Check {
+    static final Class<?> INDEX = IndexOutOfBoundsException.class;
+    static final Class<?> ARGUMENT = IllegalArgumentException.class;
+    static final Class<?> STATE = IllegalStateException.class;
+    static final Class<?> ELEMENT = NoSuchElementException.class;
+
+    static final int FINE = 0;
+    static final int SYNTAX = OneBeat.SYNTAX_ERROR;
+    static final int RANGE = OneBeat.OUT_OF_RANGE;
+    static final int TWICE = OneBeat.REPEATED;
+    static final int DEEP = OneBeat.TOO_DEEP;
+
     private static int wrong = 0;
     private static int asked = 0;
+    private static String sentence = "";
 
-    private Check() {
+    /** The sentence of the document that the next answers are about; it is printed ahead of a wrong one. */
+    static void about(String newSentence) {
+        sentence = newSentence;
+    }
+
+    private static void report(String row) {
+        wrong++;
+        if (!sentence.isEmpty()) {
+            System.out.println("\"" + sentence + "\"");
+            sentence = "";
+        }
+        System.out.println("  " + row);
     }
 
     static void same(String what, long got, long due) {
         asked++;
         if (got != due) {
-            wrong++;
-            System.out.println(what + " answered " + got + ", due is " + due);
+            report(what + " answered " + got + ", due is " + due);
         }
     }
 
@@ -23,8 +46,7 @@ final class Check {
     static void sameDouble(String what, double got, double due) {
         asked++;
         if (got != due) {
-            wrong++;
-            System.out.println(what + " answered " + got + ", due is " + due);
+            report(what + " answered " + got + ", due is " + due);
         }
     }
 
@@ -42,8 +64,7 @@ final class Check {
             got = e.getClass();
         }
         if (got != due) {
-            wrong++;
-            System.out.println(what + " threw " + got + ", due is " + due);
+            report(what + " threw " + got + ", due is " + due);
         }
     }
 
@@ -78,10 +99,75 @@ final class Check {
         OneBeat x = new OneBeat();
         int players = load(x, text);
         if (players < 1) {
-            wrong++;
-            System.out.println("setup refused (" + players + " at " + x.errorOffset() + "): " + text);
+            report("setup refused (" + players + " at " + x.errorOffset() + "): " + text);
         }
         return x;
+    }
+
+    /** The error is due where a '^' is put into the text; without one the text is fine. */
+    static void reads(int due, String marked) {
+        int offset = marked.indexOf('^');
+        readsAt(due, offset, offset < 0 ? marked : marked.substring(0, offset) + marked.substring(offset + 1));
+    }
+
+    /** The error is due at the offset, which is -1 of a text that is fine. */
+    static void readsAt(int due, int offset, String text) {
+        OneBeat x = new OneBeat();
+        long before = x.checksum();
+        int got = load(x, text);
+        same("error of '" + text + "'", Math.min(got, 0), due);
+        same("offset of '" + text + "'", x.errorOffset(), offset);
+        if (due != FINE) {
+            same("data after '" + text + "'", x.checksum(), before);
+            same("changes after '" + text + "'", x.undo(), -1);
+        } else {
+            same("changes after '" + text + "'", x.undo(), 0);
+        }
+        same("buffer after '" + text + "'", x.append(0, 0, 0, 0, 0), 20);
+    }
+
+    static void states(String name, OneBeat x, int... due) {
+        for (int what = 0; what < due.length; what++) {
+            same(name + ": state(" + what + ")", x.state(what), due[what]);
+        }
+    }
+
+    static void players(String name, OneBeat x, int player, int... due) {
+        for (int what = 0; what < due.length; what++) {
+            same(name + ": player(" + player + ", " + what + ")", x.player(player, what), due[what]);
+        }
+    }
+
+    static void messages(String name, OneBeat x, int[]... due) {
+        same(name + ": on their way", x.state(3), due.length);
+        for (int k = 0; k < Math.min(due.length, x.state(3)); k++) {
+            for (int what = 0; what < due[k].length; what++) {
+                same(name + ": message(" + k + ", " + what + ")", x.message(k, what), due[k][what]);
+            }
+        }
+    }
+
+    /** What message(k, 0) to message(k, 5) are to tell. */
+    static int[] row(int kind, int from, int to, int arrival, int number, int proposal) {
+        return new int[] {kind, from, to, arrival, number, proposal};
+    }
+
+    static void proposals(String name, OneBeat x, int... due) {
+        for (int what = 0; what < due.length; what++) {
+            same(name + ": proposal(" + what + ")", x.proposal(what), due[what]);
+        }
+    }
+
+    static void foretells(String name, OneBeat x, int... due) {
+        for (int what = 0; what < due.length; what++) {
+            same(name + ": foretold(" + what + ")", x.foretold(what), due[what]);
+        }
+    }
+
+    static void passes(OneBeat x, int ticks) {
+        for (int i = 0; i < ticks; i += 50) {
+            x.pass(Math.min(50, ticks - i));
+        }
     }
 
     static void end(String name) {

@@ -1,51 +1,11 @@
-import java.util.NoSuchElementException;
-
 /** Each promise by itself: what it says, its edges, and what it refuses. The answers are worked out by hand. */
-public final class PromisesTest {
-    private static final Class<?> INDEX = IndexOutOfBoundsException.class;
-    private static final Class<?> ARGUMENT = IllegalArgumentException.class;
-    private static final Class<?> STATE = IllegalStateException.class;
-    private static final Class<?> ELEMENT = NoSuchElementException.class;
-
+public final class PromisesTest extends Check {
     // Two players; a propose is at player 1 after 2 ticks, its vote back after 5, the commit there after 7.
     private static final String PAIR = "players 2;link 0 1 2 3;";
     // Player 0 sends to the others in 1, 2 and 3 ticks, and gets their votes 1 tick later; 2 votes are enough.
     private static final String FAN = "players 4;link 0 1 1 1;link 0 2 2 1;link 0 3 3 1;need 2;";
 
     private PromisesTest() {
-    }
-
-    private static void states(String name, OneBeat x, int... due) {
-        for (int what = 0; what < due.length; what++) {
-            Check.same(name + ": state(" + what + ")", x.state(what), due[what]);
-        }
-    }
-
-    private static void players(String name, OneBeat x, int player, int... due) {
-        for (int what = 0; what < due.length; what++) {
-            Check.same(name + ": player(" + player + ", " + what + ")", x.player(player, what), due[what]);
-        }
-    }
-
-    private static void messages(String name, OneBeat x, int[]... due) {
-        Check.same(name + ": on their way", x.state(3), due.length);
-        for (int k = 0; k < Math.min(due.length, x.state(3)); k++) {
-            for (int what = 0; what < due[k].length; what++) {
-                Check.same(name + ": message(" + k + ", " + what + ")", x.message(k, what), due[k][what]);
-            }
-        }
-    }
-
-    private static void proposals(String name, OneBeat x, int... due) {
-        for (int what = 0; what < due.length; what++) {
-            Check.same(name + ": proposal(" + what + ")", x.proposal(what), due[what]);
-        }
-    }
-
-    private static void foretells(String name, OneBeat x, int... due) {
-        for (int what = 0; what < due.length; what++) {
-            Check.same(name + ": foretold(" + what + ")", x.foretold(what), due[what]);
-        }
     }
 
     private static void promise1NewObject() {
