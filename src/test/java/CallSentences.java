@@ -22,6 +22,8 @@ final class CallSentences extends Check {
             + "none of them undone, have been made.");
         howManyCanBeUndone();
         undoneAndMadeAnew();
+        madeTwice();
+        looksLeaveAll();
         Document.says("Before the first successful load there is one player, with offset and drift 0, need is 1, patience 50, "
             + "and there is no expression.");
         beforeTheFirstLoad();
@@ -134,6 +136,106 @@ final class CallSentences extends Check {
         }
     }
 
+    private static final int STEPS = 60;
+
+    /** One of a long row of changes that leaves no part of the data as it was. */
+    private static void step(OneBeat x, int i) {
+        switch (i % 15) {
+            case 0:
+                x.ask(1 + i % 2);
+                break;
+            case 6:
+                x.ask(1);
+                break;
+            case 1:
+            case 8:
+                x.pass(1 + i % 3);
+                break;
+            case 2:
+                x.propose(1 + i);
+                break;
+            case 3:
+            case 5:
+            case 11:
+                x.pass(2);
+                break;
+            case 4:
+                x.power(2, i % 2 == 0);
+                break;
+            case 7:
+                x.cut(0, 2, i % 2 == 0);
+                break;
+            case 9:
+                x.ask(x.state(2) == 3 ? 0 : 3);
+                break;
+            case 10:
+                x.lead(i % 2 == 0 ? 3 : 0);
+                break;
+            case 12:
+                x.pass(7);
+                break;
+            case 13:
+                x.power(2, true);
+                break;
+            default:
+                if (i == STEPS / 2 - 1) {
+                    load(x, "players 5;link 0 1 1 3;link 0 2 2 2;link 0 3 4 1;clock 3 6 0;need 2;patience 6;margin 5;");
+                } else {
+                    x.pass(50);
+                }
+                break;
+        }
+    }
+
+    private static OneBeat first() {
+        return with("players 4;link 0 1 2 5;link 0 2 1 1;link 0 3 9 3;clock 1 -7 50;clock 2 4 -30;need 3;patience 12;"
+            + "margin delay+up-song/9;");
+    }
+
+    private static void madeTwice() {
+        OneBeat x = first();
+        OneBeat once = first();
+        // Of what is rare: another conductor, lost messages, proposals given up, late changes.
+        int[] rare = {2, 5, 8, 11};
+        boolean[] isSeen = new boolean[rare.length];
+        for (int i = 0; i < STEPS; i++) {
+            for (int k = 0; k < rare.length; k++) {
+                isSeen[k] |= once.state(rare[k]) > 0;
+            }
+            if (i % 15 == 2 && once.state(6) > 0 && once.proposal(5) == 0) {
+                x.pass(12);
+                once.pass(12);
+            }
+            long before = x.checksum();
+            step(x, i);
+            x.undo();
+            same("undone step " + i, x.checksum(), before);
+            step(x, i);
+            step(once, i);
+            same("step " + i + " made twice", x.checksum(), once.checksum());
+        }
+        for (int k = 0; k < rare.length; k++) {
+            holds("there was a state(" + rare[k] + ") of more than 0", isSeen[k]);
+        }
+    }
+
+    private static void looksLeaveAll() {
+        OneBeat x = first();
+        OneBeat other = first();
+        for (int i = 0; i < STEPS; i++) {
+            if (i % 15 == 2 && other.state(6) > 0 && other.proposal(5) == 0) {
+                x.pass(12);
+                other.pass(12);
+            }
+            step(x, i);
+            step(other, i);
+            x.foretold(i % 5);
+            x.safest();
+            x.meanError();
+            same("with looks after step " + i, x.checksum(), other.checksum());
+        }
+    }
+
     private static void beforeTheFirstLoad() {
         OneBeat x = new OneBeat();
         same("a load with an error", load(x, "players 2"), SYNTAX);
@@ -152,9 +254,8 @@ final class CallSentences extends Check {
     }
 
     private static void indexes() {
-        OneBeat x = new OneBeat();
-        int[] sizes = {8, 1, 2, 7};
-        for (int n : sizes) {
+        for (int n = 1; n <= 8; n++) {
+            OneBeat x = with("players 8;");
             load(x, "players " + n + ";");
             int[] outside = {-1, n, n + 1, -n, 8, 64, MIN, MAX};
             for (int p : outside) {

@@ -122,6 +122,8 @@ final class ChangeSentences extends Check {
         x.pass(5);
         proposals("the vote still comes to the sender", x, 5, 7, 50, 0, 2, 1);
         messages("who commits", x, row(4, 0, 1, 7, 3, 0));
+        same("who gets the firm plan", x.player(0, 4), 2);
+        same("not the conductor", x.player(2, 4), 0);
         x.propose(6);
         same("sender of the next one", x.proposal(3), 2);
     }
@@ -423,6 +425,7 @@ final class ChangeSentences extends Check {
         z.pass(1);
         proposals("given up, though its sender is down", z, 1, 15, 3, 1, 1, 2);
         messages("no give ups then", z, row(2, 1, 2, 5, 1, 0), row(2, 1, 0, 7, 0, 0));
+        givenUpByWhoDoesNotLead();
         OneBeat w = with("players 3;link 1 0 7 1;link 1 2 5 1;patience 3;");
         w.lead(1);
         w.propose(1);
@@ -431,6 +434,47 @@ final class ChangeSentences extends Check {
         w.power(1, true);
         w.pass(1);
         same("up again, without a plan", w.state(4), 4);
+    }
+
+    private static void givenUpByWhoDoesNotLead() {
+        OneBeat x = with(PAIR + "patience 4;");
+        x.propose(1);
+        x.lead(1);
+        x.pass(3);
+        same("plan of the sender", x.player(0, 4), 1);
+        x.pass(1);
+        same("the sender drops its plan", x.player(0, 4), 0);
+        same("the conductor does not yet", x.player(1, 4), 1);
+        x.pass(2);
+        same("the conductor does by the give up", x.player(1, 4), 0);
+        OneBeat y = with(PAIR + "patience 4;");
+        y.propose(1);
+        y.lead(1);
+        y.power(1, false);
+        y.pass(4);
+        same("the conductor is down, the sender sends", y.state(4), 2);
+        OneBeat z = with(PAIR + "patience 4;");
+        z.propose(1);
+        z.lead(1);
+        z.power(0, false);
+        z.pass(4);
+        same("the sender is down, the conductor does not send", z.state(4), 2);
+        // The same without any change by the proposal before, and with one.
+        OneBeat w = with("players 2;patience 3;");
+        w.propose(1);
+        w.pass(3);
+        w.propose(2);
+        same("plan of the second one", w.player(0, 5), 1);
+        w.pass(3);
+        players("dropped", w, 0, 1, 6, 0, 0, 0, -1);
+        OneBeat v = with(NEAR + "patience 3;margin 3;");
+        v.propose(1);
+        v.pass(3);
+        same("changed", v.player(0, 6), 1);
+        v.cut(0, 1, true);
+        v.propose(2);
+        v.pass(3);
+        players("dropped after a change", v, 0, 1, 6, 0, 1, 0, -1);
     }
 
     private static void theSendersPlanAtTheDeadline() {

@@ -88,13 +88,19 @@ final class PromiseSentences extends Check {
     private static void promise3() {
         Document.under("Promise 3");
         Document.says("Reads the first bytes of the input buffer as a setup text and replaces all data by it; the time is 0.");
-        OneBeat x = with(PAIR + "clock 1 9 9;need 1;patience 9;margin 9;");
-        x.ask(1);
-        x.propose(5);
-        x.pass(50);
-        x.power(1, false);
-        x.cut(0, 1, true);
+        OneBeat x = with(PAIR + "clock 1 9 9;need 2;patience 9;margin 5;");
         x.lead(1);
+        x.ask(0);
+        x.pass(5);
+        x.propose(5);
+        x.pass(14);
+        x.cut(1, 0, true);
+        x.propose(6);
+        x.pass(9);
+        states("ahead of it", x, 2, 28, 1, 0, 7, 2, 2, 1, 1, 1, 2, 1, 5);
+        same("guess", x.player(0, 2), 8);
+        x.propose(7);
+        x.power(1, false);
         load(x, PAIR);
         OneBeat fresh = with(PAIR);
         same("as in a new object", x.checksum(), fresh.checksum());
@@ -174,14 +180,23 @@ final class PromiseSentences extends Check {
 
     private static void lengths() {
         String text = "players 5;need 1;";
-        int[] lengths = {9, 10, 16, 17, 18, 20};
-        int[] due = {SYNTAX, 5, SYNTAX, 5, 5, 5};
-        int[] offsets = {9, -1, 16, -1, -1, -1};
+        int[] lengths = {1, 7, 8, 9, 10, 11, 14, 15, 16, 17, 18, 20};
+        int[] due = {SYNTAX, SYNTAX, SYNTAX, SYNTAX, 5, SYNTAX, SYNTAX, SYNTAX, SYNTAX, 5, 5, 5};
+        int[] offsets = {0, 7, 8, 9, -1, 10, 14, 15, 16, -1, -1, -1};
         for (int i = 0; i < lengths.length; i++) {
             OneBeat x = new OneBeat();
             put(x, text.getBytes(StandardCharsets.ISO_8859_1));
             same("load(" + lengths[i] + ")", x.load(lengths[i]), due[i]);
             same("offset by load(" + lengths[i] + ")", x.errorOffset(), offsets[i]);
+            // What lies behind is not read, be it more digits, letters, spaces or what would be due there.
+            String[] behind = {"9", "s", "need", " ", ";", "1;", "#"};
+            int length = Math.min(17, lengths[i]);
+            for (String b : behind) {
+                OneBeat y = new OneBeat();
+                put(y, (text.substring(0, length) + b).getBytes(StandardCharsets.ISO_8859_1));
+                same("load(" + length + ") ahead of " + b, y.load(length), due[i]);
+                same("offset by load(" + length + ") ahead of " + b, y.errorOffset(), offsets[i]);
+            }
         }
     }
 
@@ -473,6 +488,15 @@ final class PromiseSentences extends Check {
         y.pass(9);
         same("changes", y.state(10), 3);
         same("a change by an older one does not count", y.spread(), 0);
+        OneBeat w = with("players 2;link 0 1 1 1;margin 2;patience 3;");
+        w.cut(0, 1, true);
+        w.propose(1);
+        w.pass(3);
+        same("nobody by the first one", w.spread(), -1);
+        w.cut(0, 1, false);
+        w.propose(1);
+        w.pass(3);
+        same("two by the second one", w.spread(), 1);
         OneBeat z = with("players 2;link 0 1 1 1;margin 2;");
         z.propose(1);
         z.pass(4);
@@ -1070,7 +1094,7 @@ final class PromiseSentences extends Check {
             x.pass(1);
             same("after tick " + i, x.checksum(), sum(x));
         }
-        same("changes", x.spread() > 0, true);
+        same("a spread", x.spread() > 0, true);
         x.power(4, false);
         x.lead(2);
         same("down, and another conductor", x.checksum(), sum(x));

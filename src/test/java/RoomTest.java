@@ -80,22 +80,37 @@ public final class RoomTest {
         }
     }
 
+    /** What is answered is free long after call 512, but only what the document names may be thrown. */
+    private static void ends(Runnable call) {
+        Class<?> thrown = null;
+        try {
+            call.run();
+        } catch (RuntimeException e) {
+            thrown = e.getClass();
+        }
+        Check.holds("long after call 512 " + thrown + " was thrown", thrown == null || thrown == Check.INDEX
+            || thrown == Check.ARGUMENT || thrown == Check.STATE || thrown == Check.ELEMENT);
+    }
+
     private static void longAfter() {
         Random random = new Random(5);
         OneBeat x = Check.with(full(3, "margin 9999*song;"));
         for (int i = 0; i < 30000; i++) {
-            x.propose(random.nextInt(100));
+            int what = i % 5;
+            ends(() -> x.propose(random.nextInt(100)));
             if (i % 1000 == 0) {
-                x.checksum();
-                x.foretold(i % 5);
+                ends(x::checksum);
+                ends(() -> x.foretold(what));
+                ends(x::safest);
+                ends(x::undo);
             }
         }
         for (int i = 0; i < 2000; i++) {
-            x.pass(50);
-            x.lead(random.nextInt(8));
-            x.ask((x.state(2) + 1) % 8);
+            ends(() -> x.pass(50));
+            ends(() -> x.lead(random.nextInt(8)));
+            ends(() -> x.ask(random.nextInt(8)));
+            ends(() -> x.message(random.nextInt(9), random.nextInt(6)));
         }
-        Check.same("time", x.state(1), 100000);
     }
 
     public static void main(String[] args) {

@@ -172,6 +172,12 @@ final class SetupSentences extends Check {
         reads(SYNTAX, "players 3;margin ^upsong;");
         reads(SYNTAX, "players 3;^needneed 1;");
         reads(SYNTAX, "^playersplayers 3;");
+        reads(SYNTAX, "players 3;^needa 1;");
+        reads(SYNTAX, "players 3;^needz 1;");
+        reads(SYNTAX, "players 3;^aneed 1;");
+        reads(SYNTAX, "players 3;^zneed 1;");
+        reads(SYNTAX, "players 3;margin ^zup;");
+        reads(SYNTAX, "players 3;margin ^upa;");
     }
 
     private static void spaces() {

@@ -157,7 +157,9 @@ final class TermsSentences extends Check {
                 same("offset " + offsets[i], x.player(1, 1), offsets[i]);
                 passes(x, 99);
                 same("drift " + d, x.player(1, 1), 99 + offsets[i] + 99 * d / 1000);
-                passes(x, 901);
+                passes(x, 900);
+                same("drift " + d, x.player(1, 1), 999 + offsets[i] + 999 * d / 1000);
+                x.pass(1);
                 same("drift " + d, x.player(1, 1), 1000 + offsets[i] + d);
                 x.pass(1);
                 same("drift " + d, x.player(1, 1), 1001 + offsets[i] + d);
@@ -419,6 +421,7 @@ final class TermsSentences extends Check {
         messages("back to who asked, by who is no conductor any more", x, row(1, 0, 1, 6, 1, -1));
         x.pass(2);
         same("with its own clock", x.player(1, 2), 504 + 3 - 6);
+        same("an ask gives no guess to who gets it", x.player(0, 2), 0);
         OneBeat y = with(PAIR);
         y.ask(1);
         y.cut(0, 1, true);
