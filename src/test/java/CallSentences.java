@@ -14,21 +14,21 @@ final class CallSentences extends Check {
 
     static void run() {
         Document.says("Changes:");
-        Document.says("The changing methods are load (when it succeeds), propose, ask, pass, power, cut and lead; each such "
-            + "call that does not throw an exception is a change, also if all data stay as they were.");
+        Document.says("The changing methods are load (when it succeeds), propose, ask, pass, power, cut and lead; "
+            + "each such call that does not throw an exception is a change, also if all data stay as they were.");
         whatIsAChange();
         whatIsNone();
-        Document.says("The latest 8 changes can be undone, the latest one first; a change is final as soon as 8 later ones, "
-            + "none of them undone, have been made.");
+        Document.says("The latest 8 changes can be undone, the latest one first; a change is final as soon as 8 "
+            + "later ones, none of them undone, have been made.");
         howManyCanBeUndone();
         undoneAndMadeAnew();
         madeTwice();
         looksLeaveAll();
-        Document.says("Before the first successful load there is one player, with offset and drift 0, need is 1, patience 50, "
-            + "and there is no expression.");
+        Document.says("Before the first successful load there is one player, with offset and drift 0, need is 1, "
+            + "patience 50, and there is no expression.");
         beforeTheFirstLoad();
-        Document.says("In the methods, IndexOutOfBoundsException is thrown if a parameter named player, from or to is not the "
-            + "index of a player.");
+        Document.says("In the methods, IndexOutOfBoundsException is thrown if a parameter named player, from or to "
+            + "is not the index of a player.");
         indexes();
         Document.says("If several exceptions apply to a call, the one that is listed first with the method is thrown.");
         theFirstOneListed();
@@ -351,8 +351,8 @@ final class CallSentences extends Check {
         Document.says("`OUT_OF_RANGE = -3`: Error code of load: a number is not allowed.");
         same("OUT_OF_RANGE", OneBeat.OUT_OF_RANGE, -3);
         same("load", load(new OneBeat(), "players 9;"), -3);
-        Document.says("`REPEATED = -4`: Error code of load: a clock or a link is told twice, or a link leads to its own "
-            + "player.");
+        Document.says("`REPEATED = -4`: Error code of load: a clock or a link is told twice, or a link leads to its "
+            + "own player.");
         same("REPEATED", OneBeat.REPEATED, -4);
         same("a clock", load(new OneBeat(), "players 2;clock 1 1 1;clock 1 1 1;"), -4);
         same("a link", load(new OneBeat(), "players 2;link 0 1 1 1;link 0 1 1 1;"), -4);

@@ -55,9 +55,9 @@ final class ChangeSentences extends Check {
     }
 
     private static void whatAProposalHas() {
-        Document.says("the proposal has a number (0 for the first one since the latest successful load, then 1, and so on), "
-            + "the song, a beat, which is what the conductor's clock shows then plus the margin, and a deadline, which is "
-            + "the time plus the patience.");
+        Document.says("the proposal has a number (0 for the first one since the latest successful load, then 1, and "
+            + "so on), the song, a beat, which is what the conductor's clock shows then plus the margin, and a "
+            + "deadline, which is the time plus the patience.");
         OneBeat x = with("players 2;clock 0 100 50;clock 1 -7 0;need 1;margin 10;patience 30;");
         x.pass(20);
         same("beat", x.propose(7), 20 + 100 + 1 + 10);
@@ -82,8 +82,8 @@ final class ChangeSentences extends Check {
     }
 
     private static void whatTheConductorDoes() {
-        Document.says("The conductor gets a plan for it, votes itself, and sends a propose to all others (ahead of a commit, "
-            + "if one vote is enough).");
+        Document.says("The conductor gets a plan for it, votes itself, and sends a propose to all others (ahead of a "
+            + "commit, if one vote is enough).");
         OneBeat x = with("players 3;link 1 0 4 1;link 1 2 4 1;need 2;");
         x.lead(1);
         x.propose(5);
@@ -129,9 +129,9 @@ final class ChangeSentences extends Check {
     }
 
     private static void getsAPropose() {
-        Document.says("Who gets a propose gets a plan for it (number, song and beat), in place of another plan (a firm one, "
-            + "too), unless the present plan is for a proposal with a greater number, and sends a vote to who sent the "
-            + "propose, in any case.");
+        Document.says("Who gets a propose gets a plan for it (number, song and beat), in place of another plan (a "
+            + "firm one, too), unless the present plan is for a proposal with a greater number, and sends a vote to "
+            + "who sent the propose, in any case.");
         // Two votes are needed and a firm plan waits for the beat 300.
         OneBeat x = with(NEAR + "margin 300;");
         x.propose(4);
@@ -196,8 +196,8 @@ final class ChangeSentences extends Check {
     }
 
     private static void aVoteCounts() {
-        Document.says("A vote counts if its proposal is open, it arrives at the sender of the proposal, and that player is "
-            + "up.");
+        Document.says("A vote counts if its proposal is open, it arrives at the sender of the proposal, and that "
+            + "player is up.");
         OneBeat x = with("players 3;link 0 1 2 3;link 0 2 1 9;");
         x.propose(1);
         x.pass(4);
@@ -245,8 +245,8 @@ final class ChangeSentences extends Check {
     }
 
     private static void asManyVotesAsNeeded() {
-        Document.says("As soon as there are as many votes as needed (the sender's own vote included; at once, if one is "
-            + "enough), the proposal is committed:");
+        Document.says("As soon as there are as many votes as needed (the sender's own vote included; at once, if one "
+            + "is enough), the proposal is committed:");
         // The vote of player i is at player 0 at the time i + 1, so need votes are there at the time need.
         String star = "players 8;link 0 1 1 1;link 0 2 2 1;link 0 3 3 1;link 0 4 4 1;link 0 5 5 1;link 0 6 6 1;"
             + "link 0 7 7 1;";
@@ -271,8 +271,8 @@ final class ChangeSentences extends Check {
     }
 
     private static void commitIsSent() {
-        Document.says("the sender gets a firm plan for it (as others do, below), and a commit (with number, song and beat) is "
-            + "sent to all others.");
+        Document.says("the sender gets a firm plan for it (as others do, below), and a commit (with number, song and "
+            + "beat) is sent to all others.");
         OneBeat x = with("players 4;link 0 1 1 1;link 0 2 1 5;link 0 3 4 5;need 2;margin 20;");
         x.propose(44);
         x.power(3, false);
@@ -312,8 +312,8 @@ final class ChangeSentences extends Check {
     }
 
     private static void getsACommit() {
-        Document.says("Who gets a commit gets a firm plan for it, in place of another plan, unless the present plan is for a "
-            + "proposal with a greater number.");
+        Document.says("Who gets a commit gets a firm plan for it, in place of another plan, unless the present plan "
+            + "is for a proposal with a greater number.");
         // Player 1 misses the propose of proposal 1, whose commit comes at the time 7.
         String trio = "players 3;link 0 1 1 1;link 0 2 1 1;need 2;margin 300;patience 4;";
         OneBeat x = with(trio);
@@ -384,9 +384,9 @@ final class ChangeSentences extends Check {
     }
 
     private static void theDeadline() {
-        Document.says("If the time is the deadline and the proposal is still open, it is given up: it is not open any more; if "
-            + "its sender is up, the sender drops the own plan, if it is for this proposal, and sends a give up to all "
-            + "others.");
+        Document.says("If the time is the deadline and the proposal is still open, it is given up: it is not open "
+            + "any more; if its sender is up, the sender drops the own plan, if it is for this proposal, and sends a "
+            + "give up to all others.");
         int[] patience = {1, 2, 49, 50, 51, 199, 200};
         for (int p : patience) {
             OneBeat x = with("players 3;link 0 2 1 1;patience " + p + ";");
@@ -408,6 +408,11 @@ final class ChangeSentences extends Check {
             same("fate by " + p, x.proposal(5), p >= 5 ? 1 : 2);
             states("given up by " + p, x, 2, 6, 0, p >= 5 ? 1 : 0, 3, 0, 1, p >= 5 ? 1 : 0, p >= 5 ? 0 : 1);
         }
+        sendsGiveUps();
+        givenUpByWhoDoesNotLead();
+    }
+
+    private static void sendsGiveUps() {
         OneBeat y = with("players 3;link 1 0 7 1;link 1 2 5 1;patience 3;");
         y.lead(1);
         y.propose(1);
@@ -425,7 +430,6 @@ final class ChangeSentences extends Check {
         z.pass(1);
         proposals("given up, though its sender is down", z, 1, 15, 3, 1, 1, 2);
         messages("no give ups then", z, row(2, 1, 2, 5, 1, 0), row(2, 1, 0, 7, 0, 0));
-        givenUpByWhoDoesNotLead();
         OneBeat w = with("players 3;link 1 0 7 1;link 1 2 5 1;patience 3;");
         w.lead(1);
         w.propose(1);
@@ -559,8 +563,8 @@ final class ChangeSentences extends Check {
     }
 
     private static void whoChanges() {
-        Document.says("A player who is up, has a firm plan, and whose estimate is its beat or more, changes: the player plays "
-            + "the song, the plan is gone; the change is late if the estimate is more than the beat.");
+        Document.says("A player who is up, has a firm plan, and whose estimate is its beat or more, changes: the "
+            + "player plays the song, the plan is gone; the change is late if the estimate is more than the beat.");
         // The beat is 5; the commit is at player 1 at the time 1, when its clock shows 1 more than the offset.
         for (int offset = 0; offset <= 8; offset++) {
             OneBeat x = with(NEAR + "need 1;margin 5;clock 1 " + offset + " 0;");
@@ -595,6 +599,10 @@ final class ChangeSentences extends Check {
         players("by the estimate", z, 1, 1, 46, -40, 0, 2, 0);
         z.pass(1);
         players("by the estimate", z, 1, 1, 47, -40, 3, 0, -1, 1, 0, 7);
+        OneBeat v = with("players 1;margin 5;");
+        v.propose(0);
+        same("to the song that is played", v.pass(5), 1);
+        players("to the song that is played", v, 0, 1, 5, 0, 0, 0, -1, 1, 0, 5);
         OneBeat w = with(NEAR + "need 1;margin 5;");
         w.propose(3);
         w.pass(4);
@@ -604,9 +612,9 @@ final class ChangeSentences extends Check {
     }
 
     private static void aTick() {
-        Document.says("When a tick passes, the time becomes greater by 1; then the messages that arrive at this time are "
-            + "handled, by ascending numbers; then an open proposal whose deadline it is is given up; then each player, by "
-            + "ascending indexes, who can change changes.");
+        Document.says("When a tick passes, the time becomes greater by 1; then the messages that arrive at this time "
+            + "are handled, by ascending numbers; then an open proposal whose deadline it is is given up; then each "
+            + "player, by ascending indexes, who can change changes.");
         // Both asks come at 2; that of player 2 was sent ahead of the other one.
         OneBeat x = with("players 3;link 0 1 5 1;link 0 2 5 2;");
         x.ask(2);

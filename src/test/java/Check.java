@@ -1,4 +1,3 @@
-import java.nio.charset.StandardCharsets;
 import java.util.NoSuchElementException;
 
 /** Counts and prints the answers that are not due; a class of tests extends it to call it by short names. */
@@ -75,12 +74,13 @@ abstract class Check {
         same(what + ": checksum after it", x.checksum(), before);
     }
 
-    static int put(OneBeat x, byte[] text) {
+    /** Appends the signs of the text, which are 0 to 255, and spaces up to a multiple of 20. */
+    static int put(OneBeat x, String text) {
         int length = 0;
-        for (int i = 0; i < text.length; i += 20) {
+        for (int i = 0; i < text.length(); i += 20) {
             int[] words = new int[5];
             for (int k = 0; k < 20; k++) {
-                int b = i + k < text.length ? text[i + k] & 255 : ' ';
+                int b = i + k < text.length() ? text.charAt(i + k) : ' ';
                 words[k / 4] = words[k / 4] << 8 | b;
             }
             length = x.append(words[0], words[1], words[2], words[3], words[4]);
@@ -89,9 +89,8 @@ abstract class Check {
     }
 
     static int load(OneBeat x, String text) {
-        byte[] bytes = text.getBytes(StandardCharsets.ISO_8859_1);
-        put(x, bytes);
-        return x.load(bytes.length);
+        put(x, text);
+        return x.load(text.length());
     }
 
     /** A new object with this setup. */

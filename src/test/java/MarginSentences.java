@@ -6,9 +6,9 @@ final class MarginSentences extends Check {
     }
 
     static void run() {
-        Document.says("The margin is the value of an expression, limited to 1 to 1000, in which players is the number of "
-            + "players, delay the greatest delay of all open links (0 if there are none), up the number of players who are "
-            + "up, and song the song that is proposed.");
+        Document.says("The margin is the value of an expression, limited to 1 to 1000, in which players is the "
+            + "number of players, delay the greatest delay of all open links (0 if there are none), up the number of "
+            + "players who are up, and song the song that is proposed.");
         limits();
         players();
         delays();
@@ -16,8 +16,8 @@ final class MarginSentences extends Check {
         songs();
         Document.says("Division by 0 gives 0;");
         divisionBy0();
-        Document.says("the operations of one sum or term are made from the left to the right, and the result of each one is "
-            + "limited to the range -1000000 to 1000000: it becomes the nearer bound if it is outside of it.");
+        Document.says("the operations of one sum or term are made from the left to the right, and the result of each "
+            + "one is limited to the range -1000000 to 1000000: it becomes the nearer bound if it is outside of it.");
         order();
         bounds();
         Document.says("Without a margin statement the margin is 2 * the delay + 1.");

@@ -1,5 +1,4 @@
 import java.math.BigInteger;
-import java.nio.charset.StandardCharsets;
 
 /** The sentences of promises 1 to 21. */
 final class PromiseSentences extends Check {
@@ -53,7 +52,8 @@ final class PromiseSentences extends Check {
 
     private static void promise2() {
         Document.under("Promise 2");
-        Document.says("Appends 20 bytes to the input buffer: the 4 bytes of each argument, the most significant byte first.");
+        Document.says("Appends 20 bytes to the input buffer: the 4 bytes of each argument, the most significant byte "
+            + "first.");
         OneBeat x = new OneBeat();
         x.append(0x706c6179, 0x65727320, 0x383b6c69, 0x6e6b2036, 0x20372038);
         x.append(0x20393b20, 0x20202020, 0x20202020, 0x20202020, 0x20202020);
@@ -71,8 +71,8 @@ final class PromiseSentences extends Check {
                 same("its place", x.errorOffset(), place);
             }
         }
-        Document.says("Returns the new length of the buffer; -1 if it would exceed 600 bytes, and the buffer is unchanged "
-            + "then.");
+        Document.says("Returns the new length of the buffer; -1 if it would exceed 600 bytes, and the buffer is "
+            + "unchanged then.");
         OneBeat y = new OneBeat();
         y.append(0x706c6179, 0x65727320, 0x343b2020, 0x20202020, 0x20202020);
         for (int i = 2; i <= 30; i++) {
@@ -87,7 +87,36 @@ final class PromiseSentences extends Check {
 
     private static void promise3() {
         Document.under("Promise 3");
-        Document.says("Reads the first bytes of the input buffer as a setup text and replaces all data by it; the time is 0.");
+        Document.says("Reads the first bytes of the input buffer as a setup text and replaces all data by it; the "
+            + "time is 0.");
+        replacesAll();
+        Document.says("The input buffer is empty afterwards, also if the text has an error.");
+        emptiesTheBuffer();
+        Document.says("An error leaves all other data unchanged.");
+        errorsLeaveAll();
+        Document.says("An empty text has a SYNTAX_ERROR.");
+        OneBeat y = new OneBeat();
+        same("no byte", y.load(0), SYNTAX);
+        same("offset", y.errorOffset(), 0);
+        y.append(0x706c6179, 0x65727320, 0x343b2020, 0x20202020, 0x20202020);
+        same("no byte of 20", y.load(0), SYNTAX);
+        same("offset", y.errorOffset(), 0);
+        Document.says("- `length`: the number of bytes to read");
+        lengths();
+        Document.says("Returns the number of players; or the error code of the first error.");
+        for (int n = 1; n <= 8; n++) {
+            same("players", load(new OneBeat(), "players " + n + ";"), n);
+        }
+        same("SYNTAX_ERROR", load(new OneBeat(), "players 1;x 9"), -2);
+        same("OUT_OF_RANGE", load(new OneBeat(), "players 9;x"), -3);
+        same("REPEATED", load(new OneBeat(), "players 1;link 0 0 0 0;"), -4);
+        same("TOO_DEEP", load(new OneBeat(), "players 1;margin ((((( x"), -5);
+        Document.says("Throws `IllegalArgumentException` if length is negative or greater than the length of the "
+            + "buffer; the buffer is unchanged then");
+        refusedLengths();
+    }
+
+    private static void replacesAll() {
         OneBeat x = with(PAIR + "clock 1 9 9;need 2;patience 9;margin 5;");
         x.lead(1);
         x.ask(0);
@@ -111,8 +140,11 @@ final class PromiseSentences extends Check {
         proposals("need and patience", x, 1, 7, 50, 0, 1, 0);
         load(x, "players 2;");
         same("no link any more", x.link(0, 1), 0);
-        Document.says("The input buffer is empty afterwards, also if the text has an error.");
-        put(x, "players 3;players 4;".getBytes(StandardCharsets.ISO_8859_1));
+    }
+
+    private static void emptiesTheBuffer() {
+        OneBeat x = new OneBeat();
+        put(x, "players 3;players 4;");
         same("a part of it", x.load(10), 3);
         refuses("the rest is gone", x, ARGUMENT, () -> x.load(1));
         same("empty", x.append(0, 0, 0, 0, 0), 20);
@@ -121,27 +153,9 @@ final class PromiseSentences extends Check {
         same("empty", x.append(0, 0, 0, 0, 0), 20);
         same("nothing read", x.load(0), SYNTAX);
         same("empty", x.append(0, 0, 0, 0, 0), 20);
-        Document.says("An error leaves all other data unchanged.");
-        errorsLeaveAll();
-        Document.says("An empty text has a SYNTAX_ERROR.");
-        OneBeat y = new OneBeat();
-        same("no byte", y.load(0), SYNTAX);
-        same("offset", y.errorOffset(), 0);
-        y.append(0x706c6179, 0x65727320, 0x343b2020, 0x20202020, 0x20202020);
-        same("no byte of 20", y.load(0), SYNTAX);
-        same("offset", y.errorOffset(), 0);
-        Document.says("- `length`: the number of bytes to read");
-        lengths();
-        Document.says("Returns the number of players; or the error code of the first error.");
-        for (int n = 1; n <= 8; n++) {
-            same("players", load(new OneBeat(), "players " + n + ";"), n);
-        }
-        same("SYNTAX_ERROR", load(new OneBeat(), "players 1;x 9"), -2);
-        same("OUT_OF_RANGE", load(new OneBeat(), "players 9;x"), -3);
-        same("REPEATED", load(new OneBeat(), "players 1;link 0 0 0 0;"), -4);
-        same("TOO_DEEP", load(new OneBeat(), "players 1;margin ((((( x"), -5);
-        Document.says("Throws `IllegalArgumentException` if length is negative or greater than the length of the buffer; the "
-            + "buffer is unchanged then");
+    }
+
+    private static void refusedLengths() {
         OneBeat z = new OneBeat();
         int[] outside = {-1, 1, 20, MIN, MAX};
         for (int length : outside) {
@@ -185,7 +199,7 @@ final class PromiseSentences extends Check {
         int[] offsets = {0, 7, 8, 9, -1, 10, 14, 15, 16, -1, -1, -1};
         for (int i = 0; i < lengths.length; i++) {
             OneBeat x = new OneBeat();
-            put(x, text.getBytes(StandardCharsets.ISO_8859_1));
+            put(x, text);
             same("load(" + lengths[i] + ")", x.load(lengths[i]), due[i]);
             same("offset by load(" + lengths[i] + ")", x.errorOffset(), offsets[i]);
             // What lies behind is not read, be it more digits, letters, spaces or what would be due there.
@@ -193,7 +207,7 @@ final class PromiseSentences extends Check {
             int length = Math.min(17, lengths[i]);
             for (String b : behind) {
                 OneBeat y = new OneBeat();
-                put(y, (text.substring(0, length) + b).getBytes(StandardCharsets.ISO_8859_1));
+                put(y, text.substring(0, length) + b);
                 same("load(" + length + ") ahead of " + b, y.load(length), due[i]);
                 same("offset by load(" + length + ") ahead of " + b, y.errorOffset(), offsets[i]);
             }
@@ -202,8 +216,8 @@ final class PromiseSentences extends Check {
 
     private static void promise4() {
         Document.under("Promise 4");
-        Document.says("Returns the offset of the error found by the latest call of load that did not throw; -1 if it found "
-            + "none or if there was no such call.");
+        Document.says("Returns the offset of the error found by the latest call of load that did not throw; -1 if it "
+            + "found none or if there was no such call.");
         OneBeat x = new OneBeat();
         same("no call", x.errorOffset(), -1);
         throwsJust("load(1)", ARGUMENT, () -> x.load(1));
@@ -228,10 +242,11 @@ final class PromiseSentences extends Check {
 
     private static void promise5() {
         Document.under("Promise 5");
-        Document.says("- `what`: 0 players, 1 the time, 2 the conductor, 3 messages on their way, 4 messages that were sent (lost "
-            + "ones included), 5 lost ones, 6 proposals that were made, 7 those that were committed, 8 those that were given "
-            + "up, 9 different songs that players who are up play, 10 changes of all players, 11 late ones among them, 12 the "
-            + "margin that a proposal of song 1 would have now (whether it can be made or not)");
+        Document.says("- `what`: 0 players, 1 the time, 2 the conductor, 3 messages on their way, 4 messages that "
+            + "were sent (lost ones included), 5 lost ones, 6 proposals that were made, 7 those that were committed, "
+            + "8 those that were given up, 9 different songs that players who are up play, 10 changes of all "
+            + "players, 11 late ones among them, 12 the margin that a proposal of song 1 would have now (whether it "
+            + "can be made or not)");
         OneBeat x = with(FAN + "margin song+up+3;patience 5;");
         states("at first", x, 4, 0, 0, 0, 0, 0, 0, 0, 0, 1, 0, 0, 8);
         x.propose(8);
@@ -284,6 +299,11 @@ final class PromiseSentences extends Check {
             same("different songs of who is up", y.state(9), 7 - p);
         }
         same("margin, though nothing can be proposed", y.state(12), 1);
+        OneBeat w = with("players 3;");
+        w.power(0, false);
+        same("the song of who is up, and of who is down, too", w.state(9), 1);
+        w.power(2, false);
+        same("the song of the only one up", w.state(9), 1);
         OneBeat z = with(FAN + "margin song*7;");
         z.propose(3);
         same("margin of song 1, though one is open", z.state(12), 7);
@@ -295,9 +315,10 @@ final class PromiseSentences extends Check {
         OneBeat x = with("players 8;clock 7 70 0;clock 0 1 0;");
         same("the first one", x.player(0, 1), 1);
         same("the last one", x.player(7, 1), 70);
-        Document.says("- `what`: 0 1 if up, otherwise 0, 1 what the clock shows, 2 the guess, 3 the song, 4 the plan: 0 none, 1 "
-            + "not firm, 2 firm, 5 the number of the proposal of the plan (-1 if none), 6 its changes, 7 late ones, 8 the time "
-            + "of the latest change (-1 if none), 9 its estimate minus what the conductor's clock shows");
+        Document.says("- `what`: 0 1 if up, otherwise 0, 1 what the clock shows, 2 the guess, 3 the song, 4 the "
+            + "plan: 0 none, 1 not firm, 2 firm, 5 the number of the proposal of the plan (-1 if none), 6 its "
+            + "changes, 7 late ones, 8 the time of the latest change (-1 if none), 9 its estimate minus what the "
+            + "conductor's clock shows");
         OneBeat y = with("players 2;link 0 1 1 1;clock 0 100 0;clock 1 40 50;margin 81-song;");
         players("at first", y, 1, 1, 40, 0, 0, 0, -1, 0, 0, -1, -60);
         y.ask(1);
@@ -343,8 +364,8 @@ final class PromiseSentences extends Check {
         OneBeat x = with("players 8;link 7 0 9 1;");
         same("the last to the first one", x.link(7, 0), 9);
         same("the first to the last one", x.link(0, 7), 1);
-        Document.says("Returns the delay of the link from the first to the second one, negative if it is cut; 0 if there is "
-            + "none.");
+        Document.says("Returns the delay of the link from the first to the second one, negative if it is cut; 0 if "
+            + "there is none.");
         same("none", x.link(7, 1), 0);
         same("none to itself", x.link(7, 7), 0);
         x.cut(7, 0, true);
@@ -368,9 +389,10 @@ final class PromiseSentences extends Check {
 
     private static void promise8() {
         Document.under("Promise 8");
-        Document.says("- `k`: a place among the messages on their way, from 0, by the times at which they arrive, of several by "
-            + "their numbers");
-        OneBeat x = with("players 8;link 0 1 9 9;link 0 2 1 9;link 0 3 5 9;link 0 4 5 9;link 0 5 8 9;link 0 6 1 9;link 0 7 2 9;");
+        Document.says("- `k`: a place among the messages on their way, from 0, by the times at which they arrive, of "
+            + "several by their numbers");
+        OneBeat x = with("players 8;link 0 1 9 9;link 0 2 1 9;link 0 3 5 9;link 0 4 5 9;link 0 5 8 9;link 0 6 1 9;"
+            + "link 0 7 2 9;");
         x.propose(1);
         messages("by times and numbers", x, row(2, 0, 2, 1, 1, 0), row(2, 0, 6, 1, 5, 0), row(2, 0, 7, 2, 6, 0),
             row(2, 0, 3, 5, 2, 0), row(2, 0, 4, 5, 3, 0), row(2, 0, 5, 8, 4, 0), row(2, 0, 1, 9, 0, 0));
@@ -383,16 +405,16 @@ final class PromiseSentences extends Check {
         y.pass(2);
         y.ask(2);
         messages("of one time", y, row(0, 1, 0, 4, 0, -1), row(0, 2, 0, 4, 1, -1));
-        Document.says("- `what`: 0 its kind, 1 who sent it, 2 to whom, 3 the time at which it arrives, 4 its number, 5 the number "
-            + "of its proposal (-1 of an ask or a tell)");
+        Document.says("- `what`: 0 its kind, 1 who sent it, 2 to whom, 3 the time at which it arrives, 4 its number, "
+            + "5 the number of its proposal (-1 of an ask or a tell)");
         OneBeat z = with("players 3;link 2 1 4 9;need 1;");
         z.lead(2);
         z.pass(5);
         z.propose(1);
         z.propose(2);
         z.ask(1);
-        messages("each of them", z, row(2, 2, 1, 9, 1, 0), row(4, 2, 1, 9, 3, 0), row(2, 2, 1, 9, 5, 1), row(4, 2, 1, 9, 7, 1),
-            row(0, 1, 2, 14, 8, -1));
+        messages("each of them", z, row(2, 2, 1, 9, 1, 0), row(4, 2, 1, 9, 3, 0), row(2, 2, 1, 9, 5, 1),
+            row(4, 2, 1, 9, 7, 1), row(0, 1, 2, 14, 8, -1));
         z.pass(9);
         messages("votes and a tell", z, row(3, 1, 2, 18, 9, 0), row(3, 1, 2, 18, 10, 1), row(1, 2, 1, 18, 11, -1));
         Document.says("Returns this.");
@@ -423,8 +445,8 @@ final class PromiseSentences extends Check {
         x.lead(1);
         x.propose(6);
         proposals("of two", x, 6, 12, 25, 1, 1, 0);
-        Document.says("- `what`: 0 its song, 1 its beat, 2 its deadline, 3 its sender, 4 its votes, 5 0 if it is open, 1 if it was "
-            + "committed, 2 if it was given up");
+        Document.says("- `what`: 0 its song, 1 its beat, 2 its deadline, 3 its sender, 4 its votes, 5 0 if it is "
+            + "open, 1 if it was committed, 2 if it was given up");
         x.pass(1);
         proposals("open", x, 6, 12, 25, 1, 1, 0);
         x.pass(1);
@@ -456,8 +478,8 @@ final class PromiseSentences extends Check {
 
     private static void promise10() {
         Document.under("Promise 10");
-        Document.says("Returns the time of the last change by the latest proposal minus that of the first one; -1 if nobody "
-            + "changed by it, or there was no proposal.");
+        Document.says("Returns the time of the last change by the latest proposal minus that of the first one; -1 if "
+            + "nobody changed by it, or there was no proposal.");
         OneBeat x = with("players 3;link 0 1 1 1;link 0 2 9 1;need 2;margin 2;");
         same("no proposal", x.spread(), -1);
         x.propose(1);
@@ -508,8 +530,8 @@ final class PromiseSentences extends Check {
 
     private static void promise11() {
         Document.under("Promise 11");
-        Document.says("Foretells what comes if only time passes: at most 400 ticks, and as long as (asked ahead of each tick) "
-            + "there are messages on their way, an open proposal, or a firm plan of a player who is up.");
+        Document.says("Foretells what comes if only time passes: at most 400 ticks, and as long as (asked ahead of "
+            + "each tick) there are messages on their way, an open proposal, or a firm plan of a player who is up.");
         int[] beats = {1, 2, 398, 399, 400, 401, 402, 1000};
         for (int beat : beats) {
             OneBeat x = with("players 1;margin " + beat + ";");
@@ -552,8 +574,8 @@ final class PromiseSentences extends Check {
     }
 
     private static void whatIsForetold() {
-        Document.says("- `what`: 0 the ticks that pass, 1 what proposal(5) tells then (-1 without a proposal), 2 what spread() "
-            + "tells then, 3 what state(9) tells then, 4 late changes that come");
+        Document.says("- `what`: 0 the ticks that pass, 1 what proposal(5) tells then (-1 without a proposal), 2 "
+            + "what spread() tells then, 3 what state(9) tells then, 4 late changes that come");
         OneBeat x = with(FAN + "margin 4;");
         x.propose(5);
         x.power(3, false);
@@ -590,9 +612,9 @@ final class PromiseSentences extends Check {
 
     private static void promise12() {
         Document.under("Promise 12");
-        Document.says("Finds a safe margin: if the conductor proposed song 1 now, with this margin in place of that of the "
-            + "expression, and only time passed as told of foretold, the proposal would be committed, and no change (by an "
-            + "older plan, too) would be late.");
+        Document.says("Finds a safe margin: if the conductor proposed song 1 now, with this margin in place of that "
+            + "of the expression, and only time passed as told of foretold, the proposal would be committed, and no "
+            + "change (by an older plan, too) would be late.");
         OneBeat x = with(FAN + "margin 900;clock 0 700 0;clock 1 700 0;clock 2 700 0;clock 3 699 0;");
         same("the last commit comes at 5, a tick before it is 5 there", x.safest(), 4);
         x.propose(3);
@@ -609,9 +631,14 @@ final class PromiseSentences extends Check {
         same("never committed", x.safest(), -1);
         committedInTime();
         olderPlans();
-        Document.says("Returns the least such margin from 1 to 60; -1 if there is none, or nothing can be proposed now.");
+        Document.says("Returns the least such margin from 1 to 60; -1 if there is none, or nothing can be proposed "
+            + "now.");
         same("1", new OneBeat().safest(), 1);
         same("1", with("players 8;need 1;").safest(), 1);
+        // The clock shows 19 at 19 and at 20, so that not even a beat of 19 would be late.
+        OneBeat slow = with("players 1;clock 0 0 -50;");
+        slow.pass(19);
+        same("not 0", slow.safest(), 1);
         int[] offsets = {-1, 0, 1, 57, 58, 59, 60, 998};
         int[] least = {1, 1, 2, 58, 59, 60, -1, -1};
         for (int i = 0; i < offsets.length; i++) {
@@ -629,8 +656,13 @@ final class PromiseSentences extends Check {
         y.power(0, false);
         same("the conductor is down", y.safest(), -1);
         y.lead(1);
-        same("another conductor", with(PAIR + "need 1;").safest(), 2);
-        same("another conductor, who is up", y.safest(), -1);
+        same("another conductor, who is up, without a vote", y.safest(), -1);
+        OneBeat z = with(PAIR + "need 1;");
+        same("one vote is enough", z.safest(), 2);
+        z.power(0, false);
+        same("one would be enough, but the conductor is down", z.safest(), -1);
+        z.lead(1);
+        same("another conductor, who is up, with one vote", z.safest(), 1);
     }
 
     private static void committedInTime() {
@@ -673,8 +705,8 @@ final class PromiseSentences extends Check {
 
     private static void promise13() {
         Document.under("Promise 13");
-        Document.says("Returns the sum of the absolute values of player(int, 9) over all players who are up, and their number, "
-            + "both converted to double and divided; 0.0 if nobody is up.");
+        Document.says("Returns the sum of the absolute values of player(int, 9) over all players who are up, and "
+            + "their number, both converted to double and divided; 0.0 if nobody is up.");
         sameDouble("one", new OneBeat().meanError(), 0.0);
         OneBeat x = with("players 4;clock 1 -5 0;clock 2 8 0;link 0 2 1 1;");
         sameDouble("of all", x.meanError(), 13.0 / 4.0);
@@ -845,6 +877,31 @@ final class PromiseSentences extends Check {
         x.power(7, true);
         same("up", x.player(7, 0), 1);
         Document.says("Who goes down keeps guess and song, but drops the plan.");
+        goingDown();
+        Document.says("- `player`: a player");
+        OneBeat w = with("players 8;");
+        for (int p = 0; p < 8; p++) {
+            w.power(p, false);
+            same("down", w.player(p, 0), 0);
+        }
+        Document.says("- `isUp`: whether the player is to be up");
+        w.power(3, true);
+        same("up", w.player(3, 0), 1);
+        Document.says("Returns whether the player was up.");
+        same("was up", w.power(3, true), true);
+        same("was up", w.power(3, false), true);
+        same("was down", w.power(3, false), false);
+        same("was down", w.power(3, true), false);
+        Document.says("Throws `IndexOutOfBoundsException` if there is no such player");
+        OneBeat v = with("players 3;");
+        int[] nobody = {-1, 3, 7, 8, MIN, MAX};
+        for (int p : nobody) {
+            refuses("down of " + p, v, INDEX, () -> v.power(p, false));
+            refuses("up of " + p, v, INDEX, () -> v.power(p, true));
+        }
+    }
+
+    private static void goingDown() {
         OneBeat y = with("players 2;link 0 1 1 1;clock 1 5 0;margin 3;");
         y.ask(1);
         y.pass(2);
@@ -872,27 +929,6 @@ final class PromiseSentences extends Check {
         z.power(1, true);
         same("one changes", z.pass(50), 1);
         same("the proposal stays", z.proposal(5), 1);
-        Document.says("- `player`: a player");
-        OneBeat w = with("players 8;");
-        for (int p = 0; p < 8; p++) {
-            w.power(p, false);
-            same("down", w.player(p, 0), 0);
-        }
-        Document.says("- `isUp`: whether the player is to be up");
-        w.power(3, true);
-        same("up", w.player(3, 0), 1);
-        Document.says("Returns whether the player was up.");
-        same("was up", w.power(3, true), true);
-        same("was up", w.power(3, false), true);
-        same("was down", w.power(3, false), false);
-        same("was down", w.power(3, true), false);
-        Document.says("Throws `IndexOutOfBoundsException` if there is no such player");
-        OneBeat v = with("players 3;");
-        int[] nobody = {-1, 3, 7, 8, MIN, MAX};
-        for (int p : nobody) {
-            refuses("down of " + p, v, INDEX, () -> v.power(p, false));
-            refuses("up of " + p, v, INDEX, () -> v.power(p, true));
-        }
     }
 
     private static void promise18() {
@@ -1008,6 +1044,7 @@ final class PromiseSentences extends Check {
         }
         same("the first load is final", x.undo(), -1);
         same("players", x.state(0), 4);
+        undonePlansAndMessages();
         Document.says("The input buffer and the error offset are not affected.");
         OneBeat y = new OneBeat();
         y.pass(1);
@@ -1020,8 +1057,8 @@ final class PromiseSentences extends Check {
         same("undo of the load", y.undo(), 0);
         same("error offset", y.errorOffset(), -1);
         refuses("the buffer is empty still", y, ARGUMENT, () -> y.load(1));
-        Document.says("Returns the number of changes that can still be undone; -1 if there was none to undo, and nothing changes "
-            + "then.");
+        Document.says("Returns the number of changes that can still be undone; -1 if there was none to undo, and "
+            + "nothing changes then.");
         OneBeat z = new OneBeat();
         long fresh = z.checksum();
         same("none", z.undo(), -1);
@@ -1040,6 +1077,31 @@ final class PromiseSentences extends Check {
         same("nothing changes", z.checksum(), last);
         z.pass(5);
         same("one again", z.undo(), 0);
+    }
+
+    private static void undonePlansAndMessages() {
+        OneBeat x = with("players 2;link 0 1 1 1;need 1;margin 9;");
+        x.propose(33);
+        x.pass(1);
+        x.propose(44);
+        x.pass(1);
+        x.undo();
+        x.undo();
+        x.pass(8);
+        players("the plan that was replaced", x, 0, 1, 9, 0, 33, 0, -1, 1, 0, 9);
+        players("the plan that was replaced", x, 1, 1, 9, 0, 33, 0, -1, 1, 0, 9);
+        // A message that arrives at each time from 1 to 40, and is on its way again after it has arrived.
+        for (int time = 1; time <= 40; time++) {
+            OneBeat y = with("players 2;link 0 1 1 1;");
+            passes(y, time - 1);
+            y.ask(1);
+            y.pass(2);
+            same("handled", y.state(3), 0);
+            y.undo();
+            messages("back on its way", y, row(0, 1, 0, time, 0, -1));
+            y.undo();
+            same("not sent", y.state(3), 0);
+        }
     }
 
     /** Of each kind, each of which shows in the checksum. */
@@ -1076,10 +1138,10 @@ final class PromiseSentences extends Check {
 
     private static void promise21() {
         Document.under("Promise 21");
-        Document.says("Computes a checksum. It starts at 0; each number n in the following order replaces it by 31 * checksum + "
-            + "n, wrapping around on overflow of a long: state(0) to state(12); for each player what player(int, int) tells "
-            + "for 0 to 9; for each message on its way, by the places of message(int, int), what that tells for 0 to 5; if "
-            + "there was a proposal what proposal(int) tells for 0 to 5, and spread().");
+        Document.says("Computes a checksum. It starts at 0; each number n in the following order replaces it by 31 * "
+            + "checksum + n, wrapping around on overflow of a long: state(0) to state(12); for each player what "
+            + "player(int, int) tells for 0 to 9; for each message on its way, by the places of message(int, int), "
+            + "what that tells for 0 to 5; if there was a proposal what proposal(int) tells for 0 to 5, and spread().");
         OneBeat x = new OneBeat();
         same("new", x.checksum(), sum(x));
         load(x, "players 8;link 0 1 3 2;link 0 2 1 4;clock 1 -999 50;need 2;margin 7;");

@@ -1,5 +1,3 @@
-import java.nio.charset.StandardCharsets;
-
 /** The sentences about the setup text: its grammar, its ranges, and the first error in it. */
 final class SetupSentences extends Check {
     // Each statement, each word and each mark of the grammar.
@@ -24,8 +22,9 @@ final class SetupSentences extends Check {
         firstError();
         syntaxErrors();
         rangeErrors();
-        Document.says("- REPEATED: the player of a clock that was told already, at its first digit; the second player of a "
-            + "link that is the first one, or to which there is a link from the first one already, at its first digit.");
+        Document.says("- REPEATED: the player of a clock that was told already, at its first digit; the second "
+            + "player of a link that is the first one, or to which there is a link from the first one already, at "
+            + "its first digit.");
         repeated();
         Document.says("- TOO_DEEP: an opening parenthesis inside 4 others, at that parenthesis.");
         tooDeep();
@@ -44,13 +43,13 @@ final class SetupSentences extends Check {
             OneBeat x = new OneBeat();
             String text = spaced("players 2;", length - 7) + "need 1;";
             same("length", text.length(), length);
-            same("bytes", put(x, text.getBytes(StandardCharsets.ISO_8859_1)), 600);
+            same("bytes", put(x, text), 600);
             same("load of " + length, x.load(length), 2);
             same("read to its end", x.propose(1), 1);
             same("read to its end", x.proposal(5), 1);
         }
         OneBeat y = new OneBeat();
-        same("601 bytes do not go in", put(y, spaced("players 2;", 601).getBytes(StandardCharsets.ISO_8859_1)), -1);
+        same("601 bytes do not go in", put(y, spaced("players 2;", 601)), -1);
         throwsJust("load(601)", ARGUMENT, () -> y.load(601));
         same("load(600)", y.load(600), 2);
         OneBeat z = new OneBeat();
@@ -74,8 +73,8 @@ final class SetupSentences extends Check {
         reads(SYNTAX, "players 3;need 1^");
         reads(SYNTAX, "players 3 ^need 1;");
         reads(SYNTAX, "players 3;need 1 ^patience 2;");
-        Document.says("statement = \"clock\" number sign sign | \"link\" number number number number | \"need\" number | "
-            + "\"patience\" number | \"margin\" sum");
+        Document.says("statement = \"clock\" number sign sign | \"link\" number number number number | \"need\" "
+            + "number | \"patience\" number | \"margin\" sum");
         String[] statements = {"clock 1 2 3", "link 0 1 2 3", "need 2", "patience 2", "margin 2"};
         for (String s : statements) {
             String text = "players 3;" + s;
@@ -88,6 +87,11 @@ final class SetupSentences extends Check {
         reads(SYNTAX, "players 3;need ^-1;");
         reads(SYNTAX, "players 3;need ^(1);");
         reads(SYNTAX, "players 3;patience ^up;");
+        grammarOfSigns();
+        grammarOfSums();
+    }
+
+    private static void grammarOfSigns() {
         Document.says("sign = [ \"-\" ] number");
         reads(FINE, "players 3;clock 0 1 2;clock 1 -1 - 2;clock 2-0-0;");
         reads(SYNTAX, "players 3;clock 0 -^-1 2;");
@@ -96,6 +100,9 @@ final class SetupSentences extends Check {
         reads(SYNTAX, "players 3;clock ^-0 1 2;");
         reads(SYNTAX, "players 3;clock 0 ^(1) 2;");
         reads(SYNTAX, "players 3;clock 0 1 -^;");
+    }
+
+    private static void grammarOfSums() {
         Document.says("sum = term { ( \"+\" | \"-\" ) term }");
         reads(FINE, "players 3;margin 1+2-3+4;");
         reads(SYNTAX, "players 3;margin ^+1;");
@@ -130,8 +137,8 @@ final class SetupSentences extends Check {
     }
 
     private static void numbersAndWords() {
-        Document.says("A number is a run of decimal digits, of any length (leading zeros do not matter); a word is a run of "
-            + "the letters a to z.");
+        Document.says("A number is a run of decimal digits, of any length (leading zeros do not matter); a word is a "
+            + "run of the letters a to z.");
         StringBuilder zeros = new StringBuilder();
         while (zeros.length() < 580) {
             zeros.append('0');
@@ -181,8 +188,8 @@ final class SetupSentences extends Check {
     }
 
     private static void spaces() {
-        Document.says("Spaces (byte 32) may precede any token and may follow the last one; a word and a number side by side "
-            + "need none between them.");
+        Document.says("Spaces (byte 32) may precede any token and may follow the last one; a word and a number side "
+            + "by side need none between them.");
         reads(FINE, spaced("", 9) + WHOLE);
         reads(FINE, WHOLE + spaced("", 9));
         reads(FINE, WHOLE.replace(" ", "   "));
@@ -286,8 +293,8 @@ final class SetupSentences extends Check {
     }
 
     private static void links() {
-        Document.says("Those of link are two players, the delay from the first to the second one, and the delay from the "
-            + "second to the first one (1 to 9 each); both links are open.");
+        Document.says("Those of link are two players, the delay from the first to the second one, and the delay from "
+            + "the second to the first one (1 to 9 each); both links are open.");
         for (int n = 2; n <= 8; n++) {
             String text = "players " + n + ";link ";
             reads(TWICE, text + "0 ^0 1 1;");
@@ -363,8 +370,9 @@ final class SetupSentences extends Check {
     }
 
     private static void syntaxErrors() {
-        Document.says("- SYNTAX_ERROR: a token or byte that the grammar does not allow here, at its first byte; the end of the "
-            + "text, at its length, if the text ends too early; a second need, patience or margin, at its first letter.");
+        Document.says("- SYNTAX_ERROR: a token or byte that the grammar does not allow here, at its first byte; the "
+            + "end of the text, at its length, if the text ends too early; a second need, patience or margin, at its "
+            + "first letter.");
         // Each beginning of the whole text: it ends at a ';' or is cut off in a word or anywhere else.
         for (int cut = 0; cut < WHOLE.length(); cut++) {
             String text = WHOLE.substring(0, cut);
@@ -401,8 +409,8 @@ final class SetupSentences extends Check {
     }
 
     private static void rangeErrors() {
-        Document.says("- OUT_OF_RANGE: a number outside its range, at its first digit (of a sign: at its \"-\", if it has one); a "
-            + "player that there is not.");
+        Document.says("- OUT_OF_RANGE: a number outside its range, at its first digit (of a sign: at its \"-\", if "
+            + "it has one); a player that there is not.");
         reads(RANGE, "players   ^0009;");
         reads(RANGE, "players 3;clock 1   ^-  1000 0;");
         reads(RANGE, "players 3;clock 1   ^1000 0;");

@@ -9,11 +9,12 @@ final class TermsSentences extends Check {
     static void run() {
         Document.under("What it is");
         Document.says("A change of songs at one beat: players with clocks that drift send messages over links with "
-            + "delays; a conductor proposes a song and a beat, collects votes, commits or gives up; clocks are brought "
-            + "together by asking the conductor for the time, late changes and spreads are told, and the least margin "
-            + "that is safe is found.");
+            + "delays; a conductor proposes a song and a beat, collects votes, commits or gives up; clocks are "
+            + "brought together by asking the conductor for the time, late changes and spreads are told, and the "
+            + "least margin that is safe is found.");
         wholeStory();
-        Document.says("An object is used for at most 512 calls after it has been made; what later calls answer is free.");
+        Document.says("An object is used for at most 512 calls after it has been made; what later calls answer is "
+            + "free.");
         manyCalls();
         Document.under("Terms");
         Document.says("Conventions:");
@@ -120,11 +121,11 @@ final class TermsSentences extends Check {
         same("conductor after a load", x.state(2), 0);
         Document.says("A player is up or down (all are up at first), and plays a song (0 to 99; song 0 at first).");
         songs();
-        Document.says("The clock of a player has an offset (-999 to 999) and a drift (-50 to 50): at the time t it shows "
-            + "t + offset + t * drift / 1000.");
+        Document.says("The clock of a player has an offset (-999 to 999) and a drift (-50 to 50): at the time t it "
+            + "shows t + offset + t * drift / 1000.");
         offsetsAndDrifts();
-        Document.says("The guess of a player is a number, 0 at first (always 0 for the conductor); its estimate is what "
-            + "its clock shows plus its guess.");
+        Document.says("The guess of a player is a number, 0 at first (always 0 for the conductor); its estimate is "
+            + "what its clock shows plus its guess.");
         guesses();
     }
 
@@ -193,7 +194,8 @@ final class TermsSentences extends Check {
     }
 
     private static void links() {
-        Document.says("A link leads from one player to another one and has a delay of 1 to 9 ticks; it is open or cut.");
+        Document.says("A link leads from one player to another one and has a delay of 1 to 9 ticks; it is open or "
+            + "cut.");
         int[] delays = {1, 2, 8, 9};
         for (int d : delays) {
             OneBeat x = with("players 2;link 0 1 " + d + " " + (10 - d) + ";");
@@ -215,8 +217,8 @@ final class TermsSentences extends Check {
     }
 
     private static void sending() {
-        Document.says("A message that is sent at the time t over an open link with the delay d arrives at the time t + d; "
-            + "without an open link it is lost.");
+        Document.says("A message that is sent at the time t over an open link with the delay d arrives at the time t "
+            + "+ d; without an open link it is lost.");
         for (int d = 1; d <= 9; d++) {
             OneBeat x = with("players 2;link 0 1 " + d + " 1;");
             x.pass(3);
@@ -245,8 +247,8 @@ final class TermsSentences extends Check {
         states("cut in the other direction", z, 2, 0, 0, 1, 1, 0);
         same("ask over the cut link", z.ask(1), false);
         states("lost", z, 2, 0, 0, 1, 2, 1);
-        Document.says("Messages have numbers, in the order in which they are sent, lost ones included, from 0 on (since "
-            + "the latest successful load).");
+        Document.says("Messages have numbers, in the order in which they are sent, lost ones included, from 0 on "
+            + "(since the latest successful load).");
         numbers();
     }
 
@@ -356,8 +358,8 @@ final class TermsSentences extends Check {
         y.pass(2);
         messages("commits", y, row(4, 2, 3, 3, 6, 0), row(2, 2, 1, 5, 1, 0), row(4, 2, 1, 7, 5, 0),
             row(2, 2, 0, 9, 0, 0), row(4, 2, 0, 11, 4, 0));
-        Document.says("The kinds of messages are: 0 ask (for the time), 1 tell (the time), 2 propose, 3 vote, 4 commit, "
-            + "5 give up.");
+        Document.says("The kinds of messages are: 0 ask (for the time), 1 tell (the time), 2 propose, 3 vote, 4 "
+            + "commit, 5 give up.");
         OneBeat z = with(PAIR + "patience 5;");
         z.ask(1);
         messages("ask", z, row(0, 1, 0, 3, 0, -1));
@@ -377,8 +379,8 @@ final class TermsSentences extends Check {
     }
 
     private static void asking() {
-        Document.says("A player who is up and not the conductor can ask: it remembers (for each ask by itself) what its "
-            + "clock shows then, and sends an ask to the conductor.");
+        Document.says("A player who is up and not the conductor can ask: it remembers (for each ask by itself) what "
+            + "its clock shows then, and sends an ask to the conductor.");
         OneBeat x = with("players 3;link 0 1 1 5;link 0 2 4 2;link 1 2 3 6;");
         refuses("the conductor", x, STATE, () -> x.ask(0));
         x.power(1, false);
@@ -412,8 +414,8 @@ final class TermsSentences extends Check {
     }
 
     private static void telling() {
-        Document.says("A player who gets an ask sends a tell back to who asked, with what its own clock shows then and "
-            + "with what was remembered.");
+        Document.says("A player who gets an ask sends a tell back to who asked, with what its own clock shows then "
+            + "and with what was remembered.");
         OneBeat x = with("players 3;link 0 1 2 4;link 0 2 9 9;clock 0 500 0;clock 2 -500 0;");
         x.ask(1);
         x.lead(2);
@@ -427,8 +429,8 @@ final class TermsSentences extends Check {
         y.cut(0, 1, true);
         y.pass(3);
         states("without a link back", y, 2, 3, 0, 0, 2, 1);
-        Document.says("Who gets a tell sets the guess to: the time told + (what the own clock shows - what was remembered) "
-            + "/ 2 - what the own clock shows.");
+        Document.says("Who gets a tell sets the guess to: the time told + (what the own clock shows - what was "
+            + "remembered) / 2 - what the own clock shows.");
         for (int there = 1; there <= 9; there += 4) {
             for (int back = 1; back <= 9; back++) {
                 OneBeat z = with("players 2;link 0 1 " + back + " " + there + ";clock 0 30 0;clock 1 -999 0;");
