@@ -101,6 +101,12 @@ final class PromiseSentences extends Check {
         y.append(0x706c6179, 0x65727320, 0x343b2020, 0x20202020, 0x20202020);
         same("no byte of 20", y.load(0), SYNTAX);
         same("offset", y.errorOffset(), 0);
+        y.append(0x20202020, 0x20202020, 0x20202020, 0x20202020, 0x20202020);
+        same("no byte of 20 spaces", y.load(0), SYNTAX);
+        same("offset", y.errorOffset(), 0);
+        y.append(0x20202020, 0x20202020, 0x20202020, 0x20202020, 0x20202020);
+        same("one space is no empty text, but ends too early", y.load(1), SYNTAX);
+        same("offset", y.errorOffset(), 1);
         Document.says("- `length`: the number of bytes to read");
         lengths();
         Document.says("Returns the number of players; or the error code of the first error.");
@@ -140,6 +146,24 @@ final class PromiseSentences extends Check {
         proposals("need and patience", x, 1, 7, 50, 0, 1, 0);
         load(x, "players 2;");
         same("no link any more", x.link(0, 1), 0);
+        // Messages are on their way to each of the next times, and none of them arrives after the load.
+        OneBeat y = with("players 8;link 0 1 1 9;link 0 2 2 8;link 0 3 3 7;link 0 4 4 6;link 0 5 5 5;link 0 6 6 4;"
+            + "link 0 7 9 3;");
+        y.propose(4);
+        for (int p = 1; p < 8; p++) {
+            y.ask(p);
+        }
+        same("on their way", y.state(3), 14);
+        load(y, PAIR);
+        fresh.undo();
+        load(fresh, PAIR);
+        y.propose(6);
+        fresh.propose(6);
+        for (int time = 0; time <= 20; time++) {
+            same("as in a new object at " + time, y.checksum(), fresh.checksum());
+            y.pass(1);
+            fresh.pass(1);
+        }
     }
 
     private static void emptiesTheBuffer() {
@@ -996,6 +1020,7 @@ final class PromiseSentences extends Check {
         x.lead(0);
         same("guess, though the same one leads", x.player(1, 2), 0);
         same("guess, though the same one leads", x.player(2, 2), 0);
+        guessesOfAll();
         Document.says("(An open proposal stays with its sender.)");
         OneBeat y = with(PAIR + "patience 5;");
         y.propose(1);
@@ -1024,6 +1049,28 @@ final class PromiseSentences extends Check {
         int[] nobody = {-1, 3, 7, 8, MIN, MAX};
         for (int p : nobody) {
             refuses("player " + p, x, INDEX, () -> x.lead(p));
+        }
+    }
+
+    private static void guessesOfAll() {
+        String star = "players 8;link 3 0 1 1;link 3 1 1 1;link 3 2 1 1;link 3 4 1 1;link 3 5 1 1;link 3 6 1 1;"
+            + "link 3 7 1 1;clock 3 50 0;";
+        for (int next = 0; next < 8; next++) {
+            OneBeat x = with(star);
+            x.lead(3);
+            for (int p = 0; p < 8; p++) {
+                if (p != 3) {
+                    x.ask(p);
+                }
+            }
+            x.pass(2);
+            for (int p = 0; p < 8; p++) {
+                same("guess of " + p, x.player(p, 2), p == 3 ? 0 : 50);
+            }
+            x.lead(next);
+            for (int p = 0; p < 8; p++) {
+                same("guess of " + p + " when " + next + " leads", x.player(p, 2), 0);
+            }
         }
     }
 

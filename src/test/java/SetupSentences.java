@@ -57,6 +57,12 @@ final class SetupSentences extends Check {
         same("its offset", z.errorOffset(), 599);
         same("an error at the end", load(z, spaced("players 2", 600)), SYNTAX);
         same("its offset", z.errorOffset(), 600);
+        same("a word at the end", load(z, spaced("players 2;", 596) + "need"), SYNTAX);
+        same("its offset", z.errorOffset(), 600);
+        same("a number at the end", load(z, spaced("players 2;need", 599) + "1"), SYNTAX);
+        same("its offset", z.errorOffset(), 600);
+        same("a number out of range at the end", load(z, spaced("players 2;need", 599) + "9"), RANGE);
+        same("its offset", z.errorOffset(), 599);
     }
 
     private static void grammar() {
@@ -87,8 +93,27 @@ final class SetupSentences extends Check {
         reads(SYNTAX, "players 3;need ^-1;");
         reads(SYNTAX, "players 3;need ^(1);");
         reads(SYNTAX, "players 3;patience ^up;");
+        wordsLetterByLetter();
         grammarOfSigns();
         grammarOfSums();
+    }
+
+    /** Each word of the grammar with one letter another one, one more or one less is none of it. */
+    private static void wordsLetterByLetter() {
+        String[] words = {"players", "clock", "link", "need", "patience", "margin", "players", "delay", "up", "song"};
+        String[] before = {"", "players 3;", "players 3;", "players 3;", "players 3;", "players 3;", "players 3;margin ",
+            "players 3;margin ", "players 3;margin ", "players 3;margin "};
+        for (int i = 0; i < words.length; i++) {
+            String w = words[i];
+            for (int k = 0; k < w.length(); k++) {
+                String left = w.substring(0, k);
+                String right = w.substring(k + 1);
+                reads(SYNTAX, before[i] + "^" + left + (char) (w.charAt(k) + 1) + right + " 1;");
+                reads(SYNTAX, before[i] + "^" + left + (char) (w.charAt(k) - 1) + right + " 1;");
+                reads(SYNTAX, before[i] + "^" + left + w.charAt(k) + w.charAt(k) + right + " 1;");
+                reads(SYNTAX, before[i] + "^" + left + right + " 1;");
+            }
+        }
     }
 
     private static void grammarOfSigns() {

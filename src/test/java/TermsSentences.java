@@ -411,6 +411,10 @@ final class TermsSentences extends Check {
         same("told 6, 3 of 6 on, at 107", y.player(1, 2), 6 + 3 - 107);
         y.pass(2);
         same("told 8, 3 of 6 on, at 109", y.player(1, 2), 8 + 3 - 109);
+        // It has a guess by now, but what it remembers is what its clock shows: 109.
+        y.ask(1);
+        y.pass(6);
+        same("told 14, 3 of 6 on, at 115", y.player(1, 2), 14 + 3 - 115);
     }
 
     private static void telling() {
@@ -424,11 +428,24 @@ final class TermsSentences extends Check {
         x.pass(2);
         same("with its own clock", x.player(1, 2), 504 + 3 - 6);
         same("an ask gives no guess to who gets it", x.player(0, 2), 0);
+        // Player 0 gets the ask at 9, when it leads no more and has a guess of 200 by player 2.
+        OneBeat z = with("players 3;link 0 1 1 9;link 0 2 1 1;clock 2 200 0;");
+        z.ask(1);
+        z.lead(2);
+        z.ask(0);
+        z.pass(9);
+        same("guess of who tells", z.player(0, 2), 201 + 1 - 2);
+        z.pass(1);
+        same("what its clock shows is told, not its estimate", z.player(1, 2), 9 + 5 - 10);
         OneBeat y = with(PAIR);
         y.ask(1);
         y.cut(0, 1, true);
         y.pass(3);
         states("without a link back", y, 2, 3, 0, 0, 2, 1);
+        hearing();
+    }
+
+    private static void hearing() {
         Document.says("Who gets a tell sets the guess to: the time told + (what the own clock shows - what was "
             + "remembered) / 2 - what the own clock shows.");
         for (int there = 1; there <= 9; there += 4) {
